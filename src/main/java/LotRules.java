@@ -148,7 +148,7 @@ public final class LotRules {
         requireRange(owner, 0, OWNERS - 1);
         requireNotNegative(i);
         for (int lot = 1; lot <= lots.made; lot++) {
-            if (lots.isTakenFor(lot, good, owner) && lots.rivalsBefore(lot, rotations[owner]) == i) {
+            if (lots.mayBeTakenFor(lot, good, owner) && lots.rivalsBefore(lot, rotations[owner]) == i) {
                 return lot;
             }
         }
@@ -230,7 +230,7 @@ public final class LotRules {
     public int recall(int lot, int i) throws NoSuchElementException, IllegalArgumentException {
         requireLot(lot);
         requireNotNegative(i);
-        return units.everOfOne(lots.familyOf(lot), i);
+        return units.everOfFamily(lots.familyOf(lot), i);
     }
 
     public int where(int unit, int what) throws NoSuchElementException, IllegalArgumentException {
@@ -292,9 +292,9 @@ public final class LotRules {
         int first = date / 10000;
         int month = date / 100 % 100;
         int last = date % 100;
-        return format == YEAR_MONTH_DAY
-                ? Calendar.fromMonthDay(first, month, last)
-                : Calendar.fromMonthDay(last, month, first);
+        return format == DAY_MONTH_YEAR
+                ? Calendar.fromMonthDay(last, month, first)
+                : Calendar.fromMonthDay(first, month, last);
     }
 
     public int date(int format, int day) throws IllegalArgumentException {
@@ -307,9 +307,9 @@ public final class LotRules {
         }
         int month = Calendar.monthOf(year, yearDay);
         int monthDay = yearDay - Calendar.daysBefore(year, month);
-        return format == YEAR_MONTH_DAY
-                ? year * 10000 + month * 100 + monthDay
-                : monthDay * 10000 + month * 100 + year;
+        return format == DAY_MONTH_YEAR
+                ? monthDay * 10000 + month * 100 + year
+                : year * 10000 + month * 100 + monthDay;
     }
 
     public int count(int what) {
@@ -452,7 +452,7 @@ public final class LotRules {
             return open[lot] && reasons[lot] == 0 && !quarantined[lot];
         }
 
-        boolean isTakenFor(int lot, int good, int owner) {
+        boolean mayBeTakenFor(int lot, int good, int owner) {
             return goods[lot] == good && owners[lot] == owner && mayBeTaken(lot);
         }
 
@@ -460,7 +460,7 @@ public final class LotRules {
         int rivalsBefore(int lot, int rotation) {
             int before = 0;
             for (int rival = 1; rival <= made; rival++) {
-                if (isTakenFor(rival, goods[lot], owners[lot]) && comesBefore(rival, lot, rotation)) {
+                if (mayBeTakenFor(rival, goods[lot], owners[lot]) && comesBefore(rival, lot, rotation)) {
                     before++;
                 }
             }
@@ -505,8 +505,8 @@ public final class LotRules {
         final int[] bins;
         final int[] customers;
         final int[] daysOfGoing;
-        // Bit n: the unit is or was of lot n. A recall asks for lots that a unit has left, too.
-        final long[] everOf;
+        // All that a recall needs: every lot into which a unit came later, by a join, has this one in its family.
+        final int[] firstLotOf;
         int made;
         int gone;
 
@@ -515,7 +515,7 @@ public final class LotRules {
             bins = new int[MOST_UNITS + 1];
             customers = new int[MOST_UNITS + 1];
             daysOfGoing = new int[MOST_UNITS + 1];
-            everOf = new long[MOST_UNITS + 1];
+            firstLotOf = new int[MOST_UNITS + 1];
             made = 0;
             gone = 0;
         }
@@ -530,7 +530,7 @@ public final class LotRules {
             bins[made] = NONE;
             customers[made] = NONE;
             daysOfGoing[made] = NONE;
-            everOf[made] = 1L << lot;
+            firstLotOf[made] = lot;
             return made;
         }
 
@@ -549,7 +549,6 @@ public final class LotRules {
             for (int unit = 1; unit <= made; unit++) {
                 if (lotOf[unit] == from) {
                     lotOf[unit] = to;
-                    everOf[unit] |= 1L << to;
                 }
             }
         }
@@ -564,10 +563,10 @@ public final class LotRules {
             return left;
         }
 
-        int everOfOne(long family, int i) {
+        int everOfFamily(long family, int i) {
             int before = 0;
             for (int unit = 1; unit <= made; unit++) {
-                if ((everOf[unit] & family) != 0) {
+                if ((family & 1L << firstLotOf[unit]) != 0) {
                     if (before == i) {
                         return unit;
                     }

@@ -54,7 +54,7 @@ public final class BlockTest {
         x.block(1, 6);
         x.right(0, 5, true);
         x.right(0, 6, true);
-        x.right(0, 5, true);
+        x.right(0, 6, true);
         x.right(0, 5, false);
         x.right(0, 5, false);
         Check.same("one right is left", x.release(1, 0), 1);

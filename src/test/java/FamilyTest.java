@@ -6,6 +6,8 @@ public final class FamilyTest {
         joinsThatAreRefused();
         joinsOfLotsAlike();
         recallsAFamily();
+        recallsAllThatWasSplit();
+        recallsThroughAPartJoinedBack();
         recallsARing();
         recallsThroughManyGenerations();
         histories();
@@ -141,6 +143,31 @@ public final class FamilyTest {
         Check.refused(x, "recall(1, -1)", Check.ARGUMENT, () -> x.recall(1, -1));
         Check.refused(x, "recall(0, -1)", Check.NO_SUCH, () -> x.recall(0, -1));
         Check.refused(x, "recall(6, 0)", Check.NO_SUCH, () -> x.recall(6, 0));
+    }
+
+    private static void recallsAllThatWasSplit() {
+        LotRules x = new LotRules();
+        x.lot(0, 0, 60, 50);
+        x.split(1);
+        x.split(1);
+        x.lot(0, 0, 60, 50);
+        x.unit(2);
+        x.unit(3);
+        x.unit(4);
+        x.join(1, 4);
+        recalled(x, 1, 1, 2, 3);
+    }
+
+    private static void recallsThroughAPartJoinedBack() {
+        LotRules x = new LotRules();
+        x.lot(0, 0, 60, 50);
+        x.split(1);
+        x.split(2);
+        x.unit(3);
+        x.join(1, 2);
+        recalled(x, 1, 1);
+        recalled(x, 2, 1);
+        recalled(x, 3, 1);
     }
 
     private static void recallsARing() {

@@ -110,13 +110,16 @@ public final class OrderTest {
         x.lot(0, 0, 110, 100);
         x.join(1, 2);
         Check.holds("not open", !x.allowed(2, 0, 105));
+        x.lot(0, 0, 36524, 0);
+        Check.holds("day 0", x.allowed(3, 0, 0));
+        Check.holds("the last of all days", x.allowed(3, 0, 36524));
         for (int customer : new int[] {-1, 8}) {
             Check.refused(x, "allowed(1, " + customer + ", 0)", Check.ARGUMENT, () -> x.allowed(1, customer, 0));
         }
         for (int day : new int[] {-1, 36525}) {
             Check.refused(x, "allowed(1, 0, " + day + ")", Check.ARGUMENT, () -> x.allowed(1, 0, day));
         }
-        for (int lot : new int[] {-1, 0, 3, 41}) {
+        for (int lot : new int[] {-1, 0, 4, 41}) {
             Check.refused(x, "allowed(" + lot + ", 8, -1)", Check.NO_SUCH, () -> x.allowed(lot, 8, -1));
         }
     }
@@ -137,6 +140,11 @@ public final class OrderTest {
 
     private static void wrongRules() {
         LotRules x = new LotRules();
+        x.lot(0, 7, 50, 20);
+        x.lot(0, 7, 60, 10);
+        Check.same("owner 7 at first", x.order(0, 7, 0), 1);
+        x.rule(7, 0, 1);
+        Check.same("owner 7 has a rule", x.order(0, 7, 0), 2);
         int[][] wrong = {
             {-1, 0, 0}, {8, 0, 0}, {0, -1, 0}, {0, 2, 0}, {0, 0, -1}, {0, 0, 3}, {0, 1, -1}, {0, 1, 1001},
         };

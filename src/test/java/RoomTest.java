@@ -81,6 +81,7 @@ public final class RoomTest {
         Check.refused(x, "ship: not allowed", Check.STATE, () -> x.ship(1, 0, 11));
         x.put(1, 3);
         Check.same("put needs no row", x.where(1, 1), 3);
+        Check.refused(x, "no such row when all are written", Check.NO_SUCH, () -> x.history(1, 399, 0));
     }
 
     private static void oneRowLeft() {
