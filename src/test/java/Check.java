@@ -12,8 +12,24 @@ final class Check {
 
     private static int checks = 0;
     private static int wrong = 0;
+    private static String sentence = "";
 
     private Check() {
+    }
+
+    /** Checks of one sentence of the document; one that checks nothing is wrong, too. */
+    static void sentence(String words, Runnable test) {
+        int before = checks;
+        sentence = "\"" + words + "\": ";
+        try {
+            test.run();
+        } catch (RuntimeException e) {
+            say("stopped by " + e + " at " + e.getStackTrace()[0]);
+        }
+        if (checks == before) {
+            say("nothing was checked");
+        }
+        sentence = "";
     }
 
     static void same(String what, long got, long due) {
@@ -89,6 +105,6 @@ final class Check {
 
     private static void say(String text) {
         wrong++;
-        System.out.println(text);
+        System.out.println(sentence + text);
     }
 }

@@ -51,9 +51,7 @@ public final class RoomTest {
         x.unit(1);
         x.unit(1);
         x.ship(2, 0, 5);
-        for (boolean on = true; x.count(2) < rows; on = !on) {
-            x.quarantine(4, on);
-        }
+        Given.fillRows(x, 4, rows);
         return x;
     }
 
@@ -91,9 +89,7 @@ public final class RoomTest {
         twins.lot(0, 0, 10, 0);
         twins.lot(0, 0, 10, 0);
         twins.lot(0, 0, 10, 0);
-        for (boolean on = true; twins.count(2) < 399; on = !on) {
-            twins.quarantine(3, on);
-        }
+        Given.fillRows(twins, 3, 399);
         Check.refused(twins, "a join takes two rows", Check.NO_ROOM, () -> twins.join(1, 2));
         Check.same("a lot takes one", x.lot(0, 0, 10, 0), 5);
         Check.same("block takes one", withRows(399).block(1, 1), 1);
