@@ -139,6 +139,8 @@ public final class Promises17To23EdgesTest {
         for (int i : Given.outside(0, 1)) {
             Check.refused(x, "row " + i + ", kind", Check.NO_SUCH, () -> x.history(2, i, 0));
             Check.refused(x, "row " + i + ", number", Check.NO_SUCH, () -> x.history(2, i, 1));
+            Check.refused(x, "row " + i + ", another what", Check.NO_SUCH, () -> x.history(2, i, 2));
+            Check.refused(x, "row " + i + ", a what below 0", Check.NO_SUCH, () -> x.history(2, i, -1));
         }
         Check.refused(x, "a row that another lot has", Check.NO_SUCH, () -> x.history(1, 1, 0));
         x.block(2, 1);

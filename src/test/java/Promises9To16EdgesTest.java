@@ -396,6 +396,11 @@ public final class Promises9To16EdgesTest {
         x.put(3, 3);
         Check.refused(x, "it is there", Check.STATE, () -> x.put(3, 3));
         mixedIs(x, "it is there", 2, 1);
+        x.rule(0, 1, 2);
+        x.put(3, 0);
+        x.rule(0, 1, 0);
+        Check.refused(x, "it is there, with what it may not lie with now", Check.STATE, () -> x.put(3, 0));
+        mixedIs(x, "it is there, with what it may not lie with now", 2, 1);
         x.ship(3, 0, 50);
         Check.refused(x, "it is gone", Check.STATE, () -> x.put(3, 0));
         mixedIs(x, "it is gone", 2, 1);
